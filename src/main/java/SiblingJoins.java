@@ -872,7 +872,6 @@ public final class SiblingJoins {
 
         void restart() {
             place = 0;
-            writing = false;
         }
 
         boolean isWhole() {

@@ -149,6 +149,11 @@ public final class LooksTest {
         CHECK.equal("the store 0 is unlike", 0, x.key(0, 5));
         x.pull(0, 2, 0);
         CHECK.equal("same again", 1, x.key(0, 5));
+        x.write(1, 2, 0, 4);
+        x.write(3, 2, 0, 5);
+        x.join(2, 2, 0, 0);
+        x.pullAll();
+        CHECK.equal("what was there once does not matter", 1, x.key(2, 5));
         SiblingJoins y = new SiblingJoins();
         y.write(0, 0, 0, 1);
         y.read(1, 0, 0);
@@ -162,6 +167,11 @@ public final class LooksTest {
         y.read(3, 1, 0);
         y.write(3, 1, 1, 4);
         CHECK.equal("one vector more", 0, y.key(1, 6));
+        for (int writer = 0; writer < 5; writer++) {
+            SiblingJoins z = new SiblingJoins();
+            z.write(writer, 2, 1, 1);
+            CHECK.equal("one number is unlike", 0, z.key(2, 6));
+        }
     }
 
     private static void keyForgettable() {
@@ -212,6 +222,12 @@ public final class LooksTest {
         x.undo();
         x.undo();
         countsAre(x, new int[] {5, 3, 4, 1, 0, 0, 0, 2});
+        for (int place = 0; place < 9; place++) {
+            SiblingJoins y = new SiblingJoins();
+            y.write(0, place / 3, place % 3, 1);
+            y.write(1, place / 3, place % 3, 1);
+            countsAre(y, new int[] {2, 2, 2, 0, 0, 0, 0, 2});
+        }
     }
 
     private static void countRefusals() {
@@ -308,6 +324,10 @@ public final class LooksTest {
         x.pull(1, 2, 1);
         CHECK.equal("can be", 0, x.whyNot(1, 1));
         CHECK.equal("the joiner", 1, x.whyNot(2, 1));
+        x.undo();
+        x.undo();
+        x.pullAll();
+        CHECK.equal("dropped from behind another", 0, x.whyNot(3, 1));
         CHECK.noIndex("whyNot writer 5", x, () -> x.whyNot(5, 1));
         CHECK.noIndex("whyNot key 3", x, () -> x.whyNot(0, 3));
         for (int wrong : OUTSIDE) {

@@ -376,6 +376,9 @@ public final class StoresTest {
         x.undo();
         CHECK.equal("undone as one call", "0:1=1", Checks.siblings(x, 2, 0));
         CHECK.equal("counts undone", 0, x.count(4));
+        x.pull(0, 1, 0);
+        CHECK.equal("without what was dropped ahead of it", 3, x.pullAll());
+        CHECK.equal("all together", 4, x.count(4));
     }
 
     /** By the order of the pulls, the store 1 has its number 1 dropped once, and never gets another back. */
