@@ -382,52 +382,8 @@ public final class LooksTest {
         CHECK.equal("digest of a new object", hash, new SiblingJoins().digest());
     }
 
-    /** The list of promise 23 once more, by the public calls alone. */
     private static long listed(SiblingJoins x, String buffer) {
-        long hash = 2719;
-        for (int what = 0; what < 8; what++) {
-            hash = 31 * hash + x.count(what);
-        }
-        for (int key = 0; key < 3; key++) {
-            hash = listedKey(hash, x, key);
-        }
-        for (int key = 0; key < 3; key++) {
-            for (int what = 0; what < 3; what++) {
-                hash = 31 * hash + x.ifPulled(1, 0, key, what);
-            }
-        }
-        hash = 31 * hash + Double.doubleToLongBits(x.agreement());
-        hash = 31 * hash + buffer.length();
-        for (int i = 0; i < buffer.length(); i++) {
-            hash = 31 * hash + buffer.charAt(i);
-        }
-        return hash;
-    }
-
-    private static long listedKey(long start, SiblingJoins x, int key) {
-        long hash = start;
-        for (int what = 0; what < 8; what++) {
-            hash = 31 * hash + x.key(key, what);
-        }
-        for (int store = 0; store < 3; store++) {
-            for (int place = 0; place < x.key(key, store); place++) {
-                for (int what = 0; what < 5; what++) {
-                    hash = 31 * hash + x.sibling(store, key, place, what);
-                }
-            }
-            for (int writer = 0; writer < 5; writer++) {
-                hash = 31 * hash + x.vector(store, key, writer);
-            }
-        }
-        for (int writer = 0; writer < 5; writer++) {
-            for (int other = 0; other < 5; other++) {
-                hash = 31 * hash + x.knows(writer, key, other);
-            }
-            hash = 31 * hash + x.whyNot(writer, key);
-            hash = 31 * hash + x.ifWritten(writer, key, 0, 0);
-            hash = 31 * hash + x.ifWritten(writer, key, 0, 1);
-        }
-        return hash;
+        return DigestList.hash(DigestList.of(x, buffer));
     }
 
     private static void digestListsAll() {

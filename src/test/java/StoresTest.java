@@ -121,16 +121,8 @@ public final class StoresTest {
         CHECK.equal("vector keeps the greater numbers", "2 2 0 0 0", Checks.vector(x, 0, 0));
     }
 
-    private static SiblingJoins fourAt(int store, int key) {
-        SiblingJoins x = new SiblingJoins();
-        for (int writer = 0; writer < 4; writer++) {
-            x.write(writer, key, store, writer);
-        }
-        return x;
-    }
-
     private static void writeRefusals() {
-        SiblingJoins x = fourAt(1, 2);
+        SiblingJoins x = Made.four(1, 2);
         CHECK.noState("a fifth sibling", x, () -> x.write(4, 2, 1, 0));
         CHECK.noIndex("write writer 5", x, () -> x.write(5, 2, 1, 0));
         CHECK.noIndex("write key 3", x, () -> x.write(4, 3, 1, 0));
@@ -199,7 +191,7 @@ public final class StoresTest {
     }
 
     private static void pullRefusals() {
-        SiblingJoins x = fourAt(0, 1);
+        SiblingJoins x = Made.four(0, 1);
         x.write(4, 1, 2, 9);
         CHECK.noState("five by pulling", x, () -> x.pull(0, 2, 1));
         CHECK.noState("five by pulling back", x, () -> x.pull(2, 0, 1));
@@ -219,7 +211,7 @@ public final class StoresTest {
     }
 
     private static void join() {
-        SiblingJoins x = fourAt(0, 0);
+        SiblingJoins x = Made.four(0, 0);
         CHECK.equal("the greatest", 3, x.join(4, 0, 0, 0));
         CHECK.equal("one is left", "4:1=3", Checks.siblings(x, 0, 0));
         CHECK.equal("the writer has read", "1 1 1 1 1", Checks.knowledge(x, 4, 0));
@@ -286,7 +278,7 @@ public final class StoresTest {
     }
 
     private static void lose() {
-        SiblingJoins x = fourAt(0, 0);
+        SiblingJoins x = Made.four(0, 0);
         x.write(1, 0, 0, 5);
         x.read(1, 0, 0);
         x.write(1, 1, 0, 6);
@@ -396,7 +388,7 @@ public final class StoresTest {
     }
 
     private static void pullAllRefused() {
-        SiblingJoins x = fourAt(0, 2);
+        SiblingJoins x = Made.four(0, 2);
         x.write(0, 0, 0, 1);
         x.write(4, 2, 2, 9);
         CHECK.noState("five somewhere", x, x::pullAll);

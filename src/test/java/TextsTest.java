@@ -295,19 +295,7 @@ public final class TextsTest {
         x.forget(0, 0);
         x.pullAll();
         CHECK.equal("each saves, also if it changes nothing", 5, x.count(7));
-        x.append('r');
-        x.firstError();
-        x.clearBuffer();
-        x.sibling(0, 0, 0, 0);
-        x.vector(0, 0, 0);
-        x.knows(0, 0, 0);
-        x.key(0, 0);
-        x.count(0);
-        x.ifWritten(0, 0, 0, 0);
-        x.ifPulled(0, 1, 0, 0);
-        x.whyNot(0, 0);
-        x.agreement();
-        x.digest();
+        Made.useAllThatSavesNothing(x);
         CHECK.equal("the others do not", 5, x.count(7));
     }
 }
